@@ -1,4 +1,5 @@
-import java.util.function.IntSupplier;
+import java.util.List;
+import java.util.function.ToIntFunction;
 
 /** For each promise of the document: ordinary inputs, the edges that it names, and wrong inputs. */
 public final class PromisesTest {
@@ -52,10 +53,6 @@ public final class PromisesTest {
             wrong++;
             System.out.println(part + ": " + call + " answered " + got + ", due is " + want);
         }
-    }
-
-    private static void dueForAll(String call, IntSupplier asked, long want) {
-        due(call, asked.getAsInt(), want);
     }
 
     private static void write(HandBlinds x, String text) {
@@ -755,6 +752,24 @@ public final class PromisesTest {
 
     private static void undoBringsBackAll() {
         part = "21 undo of each change";
+        List<ToIntFunction<HandBlinds>> changes = List.of(x -> x.cut(0), x -> x.swap(0, 3), x -> x.mend(0),
+            x -> x.crank(-1, 1), x -> x.route(1), x -> x.drive(-1), x -> x.set(0, 33), HandBlinds::stop,
+            HandBlinds::add, x -> x.crank(1, 2));
+        String before = picture(worn());
+        for (int i = 0; i < changes.size(); i++) {
+            HandBlinds changed = worn();
+            int answer = changes.get(i).applyAsInt(changed);
+            due("change " + i + " is no error", isError(answer) ? 1 : 0, 0);
+            due("change " + i + " is recorded", changed.count(11), 4);
+            due("change " + i + " changes", picture(changed).equals(before) ? 1 : 0, 0);
+            HandBlinds undone = worn();
+            changes.get(i).applyAsInt(undone);
+            undone.undo();
+            due("change " + i + " is undone", picture(undone).equals(before) ? 1 : 0, 1);
+        }
+    }
+
+    private static HandBlinds worn() {
         HandBlinds x = roll("AB/DEPOT/C/D");
         x.set(1, 1);
         x.route(0b0011);
@@ -762,21 +777,7 @@ public final class PromisesTest {
         x.drive(0);
         x.crank(2, 3);
         x.stop();
-        IntSupplier[] changes = {x::add, () -> x.cut(0), () -> x.swap(0, 3), () -> x.mend(0), () -> x.crank(-1, 1),
-            () -> x.route(1), () -> x.drive(-1), x::stop, () -> x.set(0, 33), () -> x.cut(2), () -> x.crank(1, 2)};
-        String before = picture(x);
-        for (int i = 0; i < changes.length; i++) {
-            int answer = changes[i].getAsInt();
-            due("change " + i + " is no error", answer > -1000000 ? 1 : 0, 1);
-            due("change " + i + " changes", picture(x).equals(before) ? 1 : 0, 0);
-            x.undo();
-            due("change " + i + " is undone", picture(x).equals(before) ? 1 : 0, 1);
-            x.stop();
-            x.stop();
-            x.stop();
-            x.stop();
-            before = picture(x);
-        }
+        return x;
     }
 
     private static String picture(HandBlinds x) {
@@ -802,58 +803,56 @@ public final class PromisesTest {
 
     private static void errorsChangeNothing() {
         part = "errors change nothing, and nothing is thrown";
-        HandBlinds[] objects = {new HandBlinds(), roll("A/DEPOT/MMM"), fullRoll()};
-        objects[1].route(3);
-        objects[1].drive(0);
-        for (HandBlinds x : objects) {
-            String before = picture(x);
-            int states = x.count(11);
-            for (int a : WILD) {
-                for (int b : WILD) {
-                    boolean[] errors = {isError(x.swap(a, b)), isError(x.crank(a, b)), isError(x.set(a, b))};
-                    for (boolean error : errors) {
-                        if (!error) {
-                            x.undo();
-                        }
-                    }
-                    x.would(a, b, 1);
-                    x.would(1, a, b);
-                    x.rowOf(a, b);
-                    x.letter(a, b);
-                    x.routeOf(a, b);
-                    x.alike(a, b);
-                    if (errors[0] && errors[1] && errors[2]) {
-                        due("states after " + a + " and " + b, x.count(11), states);
-                        due("state after " + a + " and " + b, picture(x).equals(before) ? 1 : 0, 1);
-                    } else {
-                        before = picture(x);
-                        states = x.count(11);
-                    }
+        String before = picture(worn());
+        for (int a : WILD) {
+            for (int b : WILD) {
+                HandBlinds x = worn();
+                x.undo();
+                x.undo();
+                x.undo();
+                x.undo();
+                x.stop();
+                int changes = 1;
+                int[] answers = {x.swap(a, b), x.crank(a, b), x.set(a, b), x.cut(a), x.mend(a), x.route(a)};
+                for (int answer : answers) {
+                    changes += isError(answer) ? 0 : 1;
                 }
-                wildSingles(x, a);
-                before = picture(x);
-                states = x.count(11);
+                due("states after " + a + " and " + b, x.count(11), Math.min(changes, 4));
+                askWildly(x, a, b);
+                askWildly(new HandBlinds(), a, b);
+                HandBlinds y = worn();
+                askWildly(y, a, b);
+                due("state after asking " + a + " and " + b, picture(y).equals(before) ? 1 : 0, 1);
             }
+            changeWildly(a, before);
         }
     }
 
-    private static void wildSingles(HandBlinds x, int a) {
-        IntSupplier[] calls = {() -> x.cut(a), () -> x.mend(a), () -> x.route(a), () -> x.drive(a)};
-        for (IntSupplier call : calls) {
-            String before = picture(x);
-            boolean changed = !isError(call.getAsInt());
-            if (changed) {
-                x.undo();
-            }
-            dueForAll("as it was after " + a, () -> picture(x).equals(before) ? 1 : 0, 1);
-        }
+    private static void askWildly(HandBlinds x, int a, int b) {
+        x.would(a, b, 1);
+        x.would(1, a, b);
+        x.rowOf(a, b);
+        x.letter(a, b);
+        x.routeOf(a, b);
+        x.alike(a, b);
         x.nearest(a);
         x.read(a);
         x.count(a);
-        x.type(a);
         x.fault(a);
         x.find();
         x.mean();
+    }
+
+    private static void changeWildly(int a, String before) {
+        List<ToIntFunction<HandBlinds>> changes = List.of(x -> x.cut(a), x -> x.mend(a), x -> x.route(a),
+            x -> x.drive(a), x -> x.swap(a, 0), x -> x.swap(0, a), x -> x.crank(a, 1), x -> x.crank(1, a),
+            x -> x.set(a, 20), x -> x.set(2, a));
+        for (int i = 0; i < changes.size(); i++) {
+            HandBlinds x = worn();
+            if (isError(changes.get(i).applyAsInt(x))) {
+                due("state after the error " + i + " of " + a, picture(x).equals(before) ? 1 : 0, 1);
+            }
+        }
     }
 
     private static boolean isError(int answer) {
