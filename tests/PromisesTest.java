@@ -37,6 +37,8 @@ public final class PromisesTest {
         count();
         undo();
         undoBringsBackAll();
+        undoOfRightStops();
+        fullRollWithAllRoutes();
         errorsChangeNothing();
         type();
         clearText();
@@ -144,6 +146,12 @@ public final class PromisesTest {
         due("shown after all were cut out", x.count(1), 0);
         due("new rows have no wear", x.rowOf(0, 4) + x.rowOf(1, 4), 0);
         due("new rows have no tear", x.count(4), 0);
+        due("new rows have their own length", x.rowOf(0, 0), 1);
+        HandBlinds y = roll("NORTH/SOUTH");
+        y.cut(0);
+        write(y, "AB");
+        y.add();
+        due("a name in the place of a longer one", y.rowOf(1, 0), 2);
     }
 
     private static void cut() {
@@ -224,6 +232,12 @@ public final class PromisesTest {
         due("tears again", x.count(4), 0b11);
         due("tears of both rows", x.count(5), 3);
         due("half of three", x.mend(0), 1);
+        x.crank(-1, 3);
+        x.crank(1, 3);
+        x.crank(-1, 1);
+        x.crank(1, 3);
+        due("wear of a torn one", x.rowOf(0, 4), 7);
+        due("half of seven", x.mend(0), 3);
     }
 
     private static void crank() {
@@ -324,6 +338,8 @@ public final class PromisesTest {
         due("a wrong seventh", x.route(8), INVALID);
         due("routes", x.count(2), 6);
         due("rows of the last", x.routeOf(5, 0), 3);
+        x.undo();
+        due("a seventh is not recorded", x.count(2), 5);
         HandBlinds full = fullRoll();
         due("twenty rows", full.route((1 << 20) - 1), 0);
         due("twenty-one rows", full.route((1 << 21) - 1), INVALID);
@@ -462,6 +478,10 @@ public final class PromisesTest {
         due("what below 0", x.rowOf(0, -1), INVALID);
         due("what too great", x.rowOf(0, 8), INVALID);
         due("no rows", new HandBlinds().rowOf(0, 0), INVALID);
+        HandBlinds near = roll("TEPOT/DEPOS/DORRY/PRIVATI/XRIVATE/DEP T");
+        for (int row = 0; row < 6; row++) {
+            due("kind of a name near to one that means something, " + row, near.rowOf(row, 3), 0);
+        }
         lettersAllHaveWidths();
     }
 
@@ -664,6 +684,8 @@ public final class PromisesTest {
         due("with a blank", x.find(), 3);
         write(x, "A");
         due("shorter", x.find(), MISSING);
+        write(x, "BB");
+        due("another first letter", x.find(), MISSING);
         write(x, "AB/");
         due("with a stroke", x.find(), MISSING);
         write(x, "");
@@ -767,6 +789,58 @@ public final class PromisesTest {
             undone.undo();
             due("change " + i + " is undone", picture(undone).equals(before) ? 1 : 0, 1);
         }
+    }
+
+    private static void undoOfRightStops() {
+        part = "21 undo of right stops";
+        HandBlinds x = roll("A/B");
+        x.route(1);
+        x.drive(0);
+        x.stop();
+        x.stop();
+        x.undo();
+        due("stops", x.count(7), 1);
+        due("right stops", x.count(8), 1);
+        due("stops on the route", x.routeOf(0, 3), 1);
+        due("right stops on the route", x.routeOf(0, 4), 1);
+        x.undo();
+        x.undo();
+        x.undo();
+        due("no route", x.count(2), 0);
+        x.route(2);
+        due("a new route has no stops", x.routeOf(0, 3) + x.routeOf(0, 4), 0);
+    }
+
+    private static void fullRollWithAllRoutes() {
+        part = "a full roll with all routes";
+        HandBlinds x = fullRoll();
+        x.set(1, 1);
+        for (int i = 0; i < 6; i++) {
+            x.route(1 | 1 << 19 - i);
+        }
+        due("to the end", x.crank(19, 2), 19);
+        due("no further", x.crank(1, 2), 19);
+        due("all but the last are torn", x.count(4), (1 << 19) - 1);
+        due("tears", x.count(5), 19);
+        due("passed", x.count(6), 19);
+        due("routes of the first row", x.rowOf(0, 6), 63);
+        due("routes of the last row", x.rowOf(19, 6), 1);
+        due("torn of a route", x.routeOf(5, 2), 1 | 1 << 14);
+        due("widest", x.count(10), 0);
+        due("mean", x.mean(), Float.floatToIntBits(38.0f / 20.0f));
+        due("nearest", x.nearest(0), MISSING);
+        x.drive(0);
+        due("nearest on a route", x.nearest(1), 0);
+        due("first and last changed about", x.swap(0, 19), 19);
+        due("a route with both", x.routeOf(0, 0), 1 | 1 << 19);
+        due("a route with the first alone", x.routeOf(5, 0), 1 << 19 | 1 << 14);
+        due("last cut out", x.cut(19), 18);
+        due("its routes without it", x.routeOf(5, 0), 1 << 14);
+        due("rows", x.count(0), 19);
+        due("undone", x.undo(), 3);
+        due("rows again", x.count(0), 20);
+        due("its routes with it again", x.routeOf(5, 0), 1 << 19 | 1 << 14);
+        due("held at once", x.crank(-20, 1), 18);
     }
 
     private static HandBlinds worn() {

@@ -70,7 +70,7 @@ public final class HandBlinds {
         if (faultPlace() != NONE) {
             return NOT_POSSIBLE;
         }
-        record();
+        remember();
         int names = text.namesAhead(text.length) + 1;
         int from = 0;
         for (int i = 0; i < names; i++) {
@@ -85,7 +85,7 @@ public final class HandBlinds {
         if (!now.hasRow(row)) {
             return INVALID_ARGUMENT;
         }
-        record();
+        remember();
         now.remove(row);
         return now.rowCount == 0 ? NONE : now.shown;
     }
@@ -94,7 +94,7 @@ public final class HandBlinds {
         if (!now.hasRow(one) || !now.hasRow(other) || one == other) {
             return INVALID_ARGUMENT;
         }
-        record();
+        remember();
         now.exchange(one, other);
         return now.shown;
     }
@@ -106,7 +106,7 @@ public final class HandBlinds {
         if (!now.rows[row].torn) {
             return NOT_POSSIBLE;
         }
-        record();
+        remember();
         now.rows[row].patch();
         return now.rows[row].wear;
     }
@@ -118,7 +118,7 @@ public final class HandBlinds {
         if (now.rowCount == 0) {
             return NOT_POSSIBLE;
         }
-        record();
+        remember();
         now.roll(rows, speed);
         return now.shown;
     }
@@ -132,7 +132,7 @@ public final class HandBlinds {
         if (now.routeCount >= MOST_ROUTES) {
             return LIMIT_REACHED;
         }
-        record();
+        remember();
         return now.appendRoute(rows);
     }
 
@@ -140,14 +140,14 @@ public final class HandBlinds {
         if (route != NONE && !now.hasRoute(route)) {
             return INVALID_ARGUMENT;
         }
-        record();
+        remember();
         int before = now.driven;
         now.driven = route;
         return before;
     }
 
     public int stop() {
-        record();
+        remember();
         return now.halt();
     }
 
@@ -155,7 +155,7 @@ public final class HandBlinds {
         if (what < 0 || what >= SETTINGS || value < LEAST[what] || value > MOST[what]) {
             return INVALID_ARGUMENT;
         }
-        record();
+        remember();
         int before = now.settings[what];
         now.settings[what] = value;
         return before;
@@ -336,7 +336,7 @@ public final class HandBlinds {
     }
 
     /** The state that falls out lends its rows to the new one, so that no call makes objects. */
-    private void record() {
+    private void remember() {
         if (states == MOST_STATES) {
             Blind oldest = history[0];
             for (int i = 1; i < MOST_STATES; i++) {
