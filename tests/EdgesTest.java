@@ -588,6 +588,11 @@ public final class EdgesTest {
         due("over a blank", x.alike(4, 5), 3);
         due("up to a blank", x.alike(4, 6), 2);
         due("a row with itself", x.alike(0, 0), 14);
+        HandBlinds again = blind("NORTH END/NORTH END");
+        again.cut(0);
+        Sentences.addNames(again, "NORTH");
+        due("a shorter name where a longer one was", again.alike(0, 1), 5);
+        due("and the other way", again.alike(1, 0), 5);
 
         says("16: Returns how many; INVALID_ARGUMENT.");
         due("one behind the last", x.alike(7, 0), INVALID);
@@ -670,8 +675,7 @@ public final class EdgesTest {
             sum += rows % 3 == 0 ? 1 : rows % 3 == 1 ? 3 : 14;
             due("mean of " + rows, x.mean(), Float.floatToIntBits((float) sum / (float) rows));
         }
-        int width = 60;
-        x.set(0, width);
+        x.set(0, 4);
         due("a squeeze is no part of it", x.mean(), Float.floatToIntBits((float) sum / 20.0f));
 
         says("19: Returns the bits of the float; NOT_FOUND without rows.");
@@ -747,6 +751,14 @@ public final class EdgesTest {
         due("without rows", new HandBlinds().count(10), MISSING);
         HandBlinds longer = blind("IIIII/MM");
         due("by the width, not by the length", longer.count(10), 1);
+        HandBlinds wide = blind("A/B/M");
+        wide.cut(2);
+        due("the widest one cut out", wide.count(10), 0);
+        HandBlinds full = blind(Sentences.TWENTY);
+        due("the only M of twenty", full.count(10), 12);
+        full.cut(12);
+        Sentences.addNames(full, "W");
+        due("the last one of twenty", full.count(10), 19);
 
         says("20: 11: states in the history; 12: the length of the text; 20 to 22: the settings 0 to 2");
         HandBlinds x = new HandBlinds();

@@ -141,7 +141,7 @@ public final class TermsTest {
         says("The kind of a name is 1 for DEPOT, 2 for SORRY, 3 for PRIVATE, 4 for a name of one letter, otherwise 0.");
         String[][] ofKind = {
             {"DEPO", "DEPOTS", "DEPO T", "XDEPOT", "EPOT", "SORR", "SORRYS", "SORRI", "PRIVAT", "PRIVATES", "AB", "I I", "A A",
-                "AAAAA", "BBBBBBB", "TOPED", "YRROS"},
+                "XEPOT", "XORRY", "XRIVATE", "DEPOX", "SORRX", "PRIVATX", "DXPOT", "SOXRY", "PRIXATE"},
             {"DEPOT"}, {"SORRY"}, {"PRIVATE"}, {"A", "D", "I", "M", "S", "Z"}};
         for (int kind = 0; kind < ofKind.length; kind++) {
             for (String name : ofKind[kind]) {
@@ -208,6 +208,16 @@ public final class TermsTest {
             due("wear of the new row " + row, x.rowOf(row, 4), 0);
             due("tear of the new row " + row, x.rowOf(row, 5), 0);
         }
+
+        HandBlinds again = blind("A/B/C");
+        Sentences.tearShown(again);
+        again.cut(0);
+        again.cut(0);
+        Sentences.addNames(again, "D/E");
+        for (int row = 0; row < 3; row++) {
+            due("wear of the row " + row + " after worn ones are cut out", again.rowOf(row, 4), 0);
+        }
+        due("no tear after torn ones are cut out", again.count(4), 0);
 
         says("One row is shown (the row 0 from the first name on).");
         HandBlinds y = new HandBlinds();
