@@ -658,7 +658,7 @@ public final class ModelTest {
     }
 
     private boolean run() {
-        while (left > 90) {
+        while (left > 90 && good) {
             changeSomething();
             askSomething();
             if (below(3) == 0) {

@@ -150,7 +150,7 @@ final class Sentences {
     /** The pictures of the present state and of all states of the history, which is used up by it. */
     static String allPictures(HandBlinds x) {
         StringBuilder all = new StringBuilder(wholePicture(x));
-        while (x.undo() >= 0) {
+        for (int i = 0; i < 8 && x.undo() >= 0; i++) {
             all.append('\n').append(picture(x));
         }
         return all.toString();
